@@ -1,6 +1,18 @@
 /** Makes levels from pictures: eight rows of twelve signs, those above the picture being all air. */
 final class Draw {
-    private static final String KINDS = ".#kD^G012";
+    /** Only a strength of 3 or 4 of the spring kind 1 lifts a body over the wall. */
+    static final String[] TOWER = {
+        "............",
+        "....#.......",
+        "....#.......",
+        "....#.......",
+        "S...#.......",
+        "#...#.......",
+        "#...#......G",
+        "#1##########",
+    };
+
+    static final String KINDS = ".#kD^G012";
 
     private Draw() {
     }

@@ -1,17 +1,5 @@
 /** Promises 9 to 11 and 23 to 29, and what setSpring does to works. */
 final class ExchangeTests {
-    /** Can be won with a strength of 3 or 4 of the spring kind 1 only. */
-    static final String[] TOWER = {
-        "............",
-        "....#.......",
-        "....#.......",
-        "....#.......",
-        "S...#.......",
-        "#...#.......",
-        "#...#......G",
-        "#1##########",
-    };
-
     private ExchangeTests() {
     }
 
@@ -29,6 +17,7 @@ final class ExchangeTests {
         best();
         bestBySprings();
         bestOfOtherSprings();
+        bestByEachKind();
         parentAndLine();
         stars();
         credit();
@@ -142,7 +131,7 @@ final class ExchangeTests {
         Check.begin("promise 10, what copy refuses");
         LedgeLevels x = new LedgeLevels();
         Check.outOfBounds(x, "a work of none", () -> x.copy(0, 0));
-        Draw.work(x, 0, TOWER);
+        Draw.work(x, 0, Draw.TOWER);
         Check.outOfBounds(x, "work 1", () -> x.copy(1, 0));
         Check.outOfBounds(x, "work -1", () -> x.copy(-1, 0));
         Check.outOfBounds(x, "person 6", () -> x.copy(0, 6));
@@ -188,7 +177,7 @@ final class ExchangeTests {
         Check.begin("promise 11, what star refuses");
         LedgeLevels x = new LedgeLevels();
         Check.outOfBounds(x, "a work of none", () -> x.star(0, 0, 1));
-        Draw.work(x, 2, TOWER);
+        Draw.work(x, 2, Draw.TOWER);
         x.star(0, 1, 3);
         Check.outOfBounds(x, "work 1", () -> x.star(1, 0, 1));
         Check.outOfBounds(x, "work -1", () -> x.star(-1, 0, 1));
@@ -213,7 +202,7 @@ final class ExchangeTests {
         Check.begin("promise 23, works");
         LedgeLevels x = new LedgeLevels();
         Check.due("none", 0, x.works());
-        Draw.work(x, 2, TOWER);
+        Draw.work(x, 2, Draw.TOWER);
         Check.due("one", 1, x.works());
         x.copy(0, 1);
         Check.due("a copy is none", 1, x.works());
@@ -247,7 +236,7 @@ final class ExchangeTests {
     private static void bestBySprings() {
         Check.begin("promises 7 and 25, works whose springs change");
         LedgeLevels x = new LedgeLevels();
-        Draw.work(x, 0, TOWER);
+        Draw.work(x, 0, Draw.TOWER);
         Check.due("strength 3", 14, x.best(0));
         Check.due("strength 4", 1, x.setSpring(1, 4));
         Check.due("is searched again at once", 13, x.best(0));
@@ -262,7 +251,7 @@ final class ExchangeTests {
     private static void bestOfOtherSprings() {
         Check.begin("promises 7 and 25, works with several kinds of springs");
         LedgeLevels x = new LedgeLevels();
-        int level = Draw.level(x, 0, TOWER);
+        int level = Draw.level(x, 0, Draw.TOWER);
         x.prove(level);
         x.offer(level);
         x.set(level, 85, 6);
@@ -281,6 +270,24 @@ final class ExchangeTests {
         x.setSpring(0, 4);
         Check.due("the first one still", -1, x.best(0));
         Check.due("the second one is back", 13, x.best(1));
+    }
+
+    private static void bestByEachKind() {
+        Check.begin("promises 7 and 25, works with each kind of springs");
+        LedgeLevels x = new LedgeLevels();
+        int level = Draw.level(x, 0, Draw.TOWER);
+        for (int spring = 0; spring < 3; spring++) {
+            x.setSpring(spring, 4);
+            x.set(level, 85, 6 + spring);
+            x.prove(level);
+            Check.due("the work", spring, x.offer(level));
+        }
+        for (int spring = 0; spring < 3; spring++) {
+            x.setSpring(spring, 3);
+            for (int work = 0; work < 3; work++) {
+                Check.due("work " + work + " by spring " + spring, work <= spring ? 14 : 13, x.best(work));
+            }
+        }
     }
 
     private static void parentAndLine() {
@@ -345,7 +352,7 @@ final class ExchangeTests {
     private static void creditOfWithdrawnWorks() {
         Check.begin("promises 28 and 29, stars of withdrawn works");
         LedgeLevels x = new LedgeLevels();
-        Draw.work(x, 0, TOWER);
+        Draw.work(x, 0, Draw.TOWER);
         x.star(0, 1, 4);
         x.setSpring(1, 1);
         Check.due("they stay", 4, x.stars(0));

@@ -17,6 +17,7 @@ final class LevelTests {
         redo();
         editsForgetUndone();
         fortyEdits();
+        fortyEditsOfOneCell();
         levels();
         at();
         start();
@@ -271,7 +272,7 @@ final class LevelTests {
         LedgeLevels x = new LedgeLevels();
         x.begin(0);
         for (int edit = 0; edit < 43; edit++) {
-            x.set(0, edit, 1);
+            x.set(0, edit, kindOf(edit));
             Check.due("edits", Math.min(edit + 1, 40), x.edits(0, true));
         }
         for (int edit = 42; edit >= 3; edit--) {
@@ -281,21 +282,37 @@ final class LevelTests {
         Check.due("no edits", 0, x.edits(0, true));
         Check.due("forty undone", 40, x.edits(0, false));
         Check.badState(x, "the earliest three are forgotten", () -> x.undo(0));
-        Check.due("and stand", 1, x.at(0, 2));
+        Check.due("and stand", kindOf(2), x.at(0, 2));
         for (int edit = 3; edit < 43; edit++) {
             Check.due("done again", edit, x.redo(0));
-            Check.due("is a wall again", 1, x.at(0, edit));
+            Check.due("is there again", kindOf(edit), x.at(0, edit));
         }
         Check.due("forty edits", 40, x.edits(0, true));
         Check.badState(x, "no more undone", () -> x.redo(0));
+    }
+
+    private static int kindOf(int edit) {
+        return 3 + edit % 6;
+    }
+
+    private static void fortyEditsOfOneCell() {
+        Check.begin("promises 3 and 5, at most 40 edits of one cell");
+        LedgeLevels x = new LedgeLevels();
+        x.begin(0);
+        for (int edit = 0; edit < 42; edit++) {
+            x.set(0, 50, kindOf(edit));
+        }
         x.undo(0);
         x.set(0, 60, 4);
         Check.due("forty still, none forgotten", 40, x.edits(0, true));
         x.set(0, 61, 4);
-        for (int edit = 0; edit < 39; edit++) {
-            x.undo(0);
+        x.undo(0);
+        x.undo(0);
+        for (int edit = 40; edit >= 3; edit--) {
+            Check.due("undone", 50, x.undo(0));
+            Check.due("what was there before", kindOf(edit - 1), x.at(0, 50));
         }
-        Check.due("the earliest one left", 4, x.undo(0));
+        Check.badState(x, "the earliest three are forgotten", () -> x.undo(0));
     }
 
     private static void levels() {

@@ -68,7 +68,7 @@ final class ModelTests {
         for (int row = 0; row < 8; row++) {
             for (int column = 0; column < 12; column++) {
                 int cell = 12 * row + column;
-                int kind = ".#kD^G012".indexOf(ExchangeTests.TOWER[row].charAt(column));
+                int kind = Draw.KINDS.indexOf(Draw.TOWER[row].charAt(column));
                 if (kind > 0 && kind != x.at(0, cell)) {
                     same("set", () -> x.set(0, cell, kind), () -> model.set(0, cell, kind));
                     calls++;

@@ -51,7 +51,7 @@ final class RunTests {
         Check.begin("promise 12, what run refuses");
         LedgeLevels x = new LedgeLevels();
         Check.outOfBounds(x, "a work of none", () -> x.run(0, 0));
-        int work = Draw.work(x, 0, ExchangeTests.TOWER);
+        int work = Draw.work(x, 0, Draw.TOWER);
         x.run(1, work);
         x.step(1, 2);
         Check.outOfBounds(x, "person 6", () -> x.run(6, 0));
@@ -120,7 +120,7 @@ final class RunTests {
     private static void twoHundredSteps() {
         Check.begin("promise 13, at most 200 steps");
         LedgeLevels x = new LedgeLevels();
-        int work = Draw.work(x, 0, ExchangeTests.TOWER);
+        int work = Draw.work(x, 0, Draw.TOWER);
         x.run(0, work);
         for (int step = 1; step <= 200; step++) {
             x.step(0, 1);
@@ -190,7 +190,7 @@ final class RunTests {
     private static void withdrawnWhileItGoesOn() {
         Check.begin("promise 31, runs of a withdrawn work");
         LedgeLevels x = new LedgeLevels();
-        int work = Draw.work(x, 0, ExchangeTests.TOWER);
+        int work = Draw.work(x, 0, Draw.TOWER);
         x.begin(1);
         x.set(1, 75, 5);
         x.prove(1);

@@ -19,18 +19,6 @@ final class SearchTests {
         strength();
     }
 
-    /** Only who falls on the spring, and is lifted to the uppermost row by it, comes over the wall. */
-    private static final String[] TOWER = {
-        "............",
-        "....#.......",
-        "....#.......",
-        "....#.......",
-        "S...#.......",
-        "#...#.......",
-        "#...#......G",
-        "#1##########",
-    };
-
     private static void setSpring() {
         Check.begin("promise 7, setSpring");
         LedgeLevels x = new LedgeLevels();
@@ -118,7 +106,7 @@ final class SearchTests {
     private static void proveBySprings() {
         Check.begin("promise 8, springs");
         LedgeLevels x = new LedgeLevels();
-        int level = Draw.level(x, 0, TOWER);
+        int level = Draw.level(x, 0, Draw.TOWER);
         Check.due("strength 3", 14, x.prove(level));
         x.setSpring(1, 4);
         Check.due("strength 4", 13, x.prove(level));
