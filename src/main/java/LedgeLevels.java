@@ -212,7 +212,7 @@ public final class LedgeLevels {
         return stepped.answer();
     }
 
-    // ---- levels as they are
+    // ---- levels as they are; nothing from here on changes anything
 
     public int levels() {
         return levelCount;

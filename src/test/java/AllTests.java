@@ -1,7 +1,7 @@
 import java.io.IOException;
 import java.nio.file.Path;
 
-/** Runs every test of the project; the argument is the path of LedgeLevels.java. */
+/** Runs every test of the project; the arguments are the paths of LedgeLevels.java and of DOC.md. */
 public final class AllTests {
     private AllTests() {
     }
@@ -12,6 +12,7 @@ public final class AllTests {
         StepTests.all();
         RunTests.all();
         ExchangeTests.all();
+        EdgeTests.all(Path.of(args[1]));
         ModelTests.all();
         LanguageTests.all(Path.of(args[0]));
         if (!Check.allAsDue()) {

@@ -30,6 +30,16 @@ final class LanguageTests {
         "\\bdouble\\b", "\\bfloat\\b", "@",
     };
 
+    /** What the interface says ahead of calls, with the first and the last of these calls. */
+    private static final String[][] HEADINGS = {
+        {"---- levels", "begin", "prove"},
+        {"---- the exchange", "offer", "star"},
+        {"---- runs", "run", "step"},
+        {"---- levels as they are; nothing from here on changes anything", "levels", "strength"},
+        {"---- works as they are", "works", "record"},
+        {"---- runs as they are", "runState", "stepsOf"},
+    };
+
     private LanguageTests() {
     }
 
@@ -37,6 +47,7 @@ final class LanguageTests {
         face();
         members();
         text(source);
+        headings(source);
     }
 
     private static void face() {
@@ -122,6 +133,20 @@ final class LanguageTests {
             String line = lines.get(number);
             from = line.isBlank() ? number : from;
             Check.holds("a part without a gap is longer than sixty lines, at " + number, number - from <= 60);
+        }
+    }
+
+    private static void headings(Path source) throws IOException {
+        Check.begin("what the interface says");
+        String text = Files.readString(source, StandardCharsets.US_ASCII);
+        int place = 0;
+        for (String[] heading : HEADINGS) {
+            String[] sought = {"// " + heading[0] + "\n", "public int " + heading[1] + "(", "public int " + heading[2] + "("};
+            for (String words : sought) {
+                int found = text.indexOf(words, place);
+                Check.holds("it has not, in its place: " + words, found >= 0);
+                place = Math.max(found, place);
+            }
         }
     }
 

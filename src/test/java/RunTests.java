@@ -17,12 +17,6 @@ final class RunTests {
         withoutARun();
     }
 
-    private static void walk(LedgeLevels x, int person, int count) {
-        for (int step = 0; step < count; step++) {
-            x.step(person, 2);
-        }
-    }
-
     private static void run() {
         Check.begin("promise 12, run");
         LedgeLevels x = new LedgeLevels();
@@ -84,7 +78,7 @@ final class RunTests {
         Check.badArgument(x, "input 6", () -> x.step(0, 6));
         Check.badArgument(x, "input -1", () -> x.step(0, -1));
         Check.badState(x, "another person's run", () -> x.step(1, 1));
-        walk(x, 0, 2);
+        Walk.times(x, 0, Walk.RIGHT, 2);
         Check.badState(x, "a run that has won", () -> x.step(0, 1));
         Check.badArgument(x, "a run that has won, input 6", () -> x.step(0, 6));
     }
@@ -99,8 +93,8 @@ final class RunTests {
         x.offer(0);
         x.run(0, 0);
         x.run(1, 0);
-        walk(x, 0, 3);
-        walk(x, 1, 1);
+        Walk.times(x, 0, Walk.RIGHT, 3);
+        Walk.times(x, 1, Walk.RIGHT, 1);
         Check.due("the one's body", 75, x.body(0));
         Check.due("the other's body", 73, x.body(1));
         Check.due("the one's steps", 3, x.stepsOf(0));
@@ -110,7 +104,7 @@ final class RunTests {
         Check.due("no keys", 0, x.keys(0));
         Check.due("no speed", 0, x.speed(0));
         Check.due("the other's goes on", 73, x.body(1));
-        walk(x, 0, 8);
+        Walk.times(x, 0, Walk.RIGHT, 8);
         Check.due("won", 2, x.runState(0));
         Check.due("the steps of the new run", 8, x.record(0));
         x.run(0, 0);
@@ -149,15 +143,15 @@ final class RunTests {
         x.run(0, 0);
         x.step(0, 0);
         Check.due("no run that won", -1, x.record(0));
-        walk(x, 0, 3);
+        Walk.times(x, 0, Walk.RIGHT, 3);
         Check.due("the first run that won", 4, x.record(0));
         x.run(1, 0);
         x.step(1, 0);
         x.step(1, 0);
-        walk(x, 1, 3);
+        Walk.times(x, 1, Walk.RIGHT, 3);
         Check.due("more steps change nothing", 4, x.record(0));
         x.run(0, 0);
-        walk(x, 0, 3);
+        Walk.times(x, 0, Walk.RIGHT, 3);
         Check.due("fewer steps", 3, x.record(0));
         Check.due("another work", -1, x.record(1));
         Check.outOfBounds(x, "work 2", () -> x.record(2));
