@@ -21,24 +21,29 @@ final class Edge {
             if (line.startsWith("## ")) {
                 section = line.substring(3).replaceFirst(":.*", "");
                 SENTENCES.put(section, new ArrayList<>());
-            } else if (section.equals("Terms") || section.startsWith("Promise ")) {
+            } else if (section.matches("What it is|Terms|Promise .*")) {
                 SENTENCES.get(section).addAll(sentencesOf(line));
             }
         }
     }
 
-    /** Headings, names of parameters, and what the interface says ahead of calls are no sentences. */
+    /** Headings, names of parameters, what the interface says ahead of calls and what is free need no test. */
     private static List<String> sentencesOf(String line) {
         List<String> sentences = new ArrayList<>();
         String words = line.replaceFirst("^`.*?`: ", "");
         boolean isName = words.startsWith("- ") && !words.matches(".*\\d.*");
         for (String sentence : words.replace("`", "").split("(?<=[.;]) ")) {
             boolean isHeading = sentence.matches("(The )?\\w*\\.?") || sentence.startsWith("Ahead of the calls");
-            if (!isName && !isHeading) {
+            boolean isFree = sentence.endsWith("answer is free.");
+            if (!isName && !isHeading && !isFree) {
                 sentences.add(sentence);
             }
         }
         return sentences;
+    }
+
+    static void whatItIs(String words) {
+        begin("What it is", words);
     }
 
     static void terms(String words) {

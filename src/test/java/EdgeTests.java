@@ -1,12 +1,12 @@
 import java.io.IOException;
 import java.nio.file.Path;
 
-/** Each edge that DOC.md names, by its promise or by "Terms". */
+/** Each edge that DOC.md names, by its promise, by "Terms" or by "What it is". */
 final class EdgeTests {
     private EdgeTests() {
     }
 
-    static void all(Path document) throws IOException {
+    static void all(Path document, Path readme, Path example) throws IOException {
         Edge.read(document);
         TermsOfLevels.all();
         TermsOfBodies.all();
@@ -17,6 +17,8 @@ final class EdgeTests {
         EdgesOfWorks.all();
         EdgesOfRuns.all();
         BoundsTests.all();
+        LifeTests.all();
+        ReadmeTests.all(readme, example);
         Edge.allQuoted();
     }
 }
